@@ -274,6 +274,7 @@ public final class PromisesTest {
         c.due("39 since the break", Desk.plan(x, 12, 21, 10, 10, 2, 2, 2, 2), 10);
         c.due("40 since the break", Desk.plan(x, 12, 21, 10, 10, 1, 2), 0);
         c.due("40 since the first break, not the latest", Desk.plan(x, 12, 21, 10, 21, 0, 2), 3);
+        c.due("a break of the plan before is no break", Desk.plan(x, 12, 10, 10, 1, 2), 0);
     }
 
     private static void planLips() {
@@ -357,6 +358,9 @@ public final class PromisesTest {
         c.due("fault", x.fault(), 0);
         c.due("index", x.right(1, 2, 0, 2, 0), LOST);
         c.due("fault", x.fault(), 3);
+        x = Desk.with("c60;p7110");
+        c.due("least terms as it is", Desk.right(x, 0), 7);
+        c.due("least terms as it is", Desk.right(x, 1), 10);
         x = Desk.with("c60;p9110;p9110;p9110;p9110;p9110;p9110");
         c.due("nine to six", Desk.right(x, 0), 531441);
         c.due("of 2 to 5 times 10 to 6", Desk.right(x, 1), 32000000);
@@ -370,6 +374,7 @@ public final class PromisesTest {
         c.due("the third", Desk.worse(x, 0, 0, 0), 2);
         c.due("none", Desk.worse(x, 0, 0), NONE);
         c.due("of none", Desk.worse(x), NONE);
+        c.due("a run, a break", Desk.worse(x, 20, 21), NONE);
         c.due("the first of two", Desk.worse(x, 3, 3, 3), 1);
         c.due("of two places", Desk.worse(x, 0, 0, 3, 3, 0), 3);
         c.due("a first wrong", Desk.worse(x, 3, 3, 1), -102);
@@ -579,6 +584,24 @@ public final class PromisesTest {
         c.due("no piece", new HourRehearsal().plans(0, -1), STATE);
         x = Desk.with("c60;p0110;p0110;p0110;p0110;p0110;p0110");
         c.due("as many as can be", x.plans(3, -1), 1 + 14 + 14 * 14 + 14 * 14 * 14);
+        for (int k = 0; k < 6; k++) {
+            x.reading(k, 3);
+            c.due("quick", x.plans(1, -1), 1);
+            c.due("quick", x.plans(1, 0), k);
+            x.back(1);
+            x.reading(k, 6);
+            c.due("slow", x.plans(1, -1), 1);
+            c.due("slow", x.plans(1, 0), 10 + k);
+            x.back(1);
+        }
+        x.reading(5, 3);
+        c.due("the best is looked for", x.best(1, 0), NONE);
+        c.due("what was seen is looked for again", x.plans(1, 0), 5);
+        x = Desk.with("c16;p0111");
+        x.reading(0, 3);
+        c.due("a break, then it can be", x.plans(2, -1), 1);
+        c.due("a break, then it can be", x.plans(2, 0), 21);
+        c.due("a break, then it can be", x.plans(2, 1), 0);
     }
 
     private static void kinds() {
