@@ -65,13 +65,7 @@ public final class HourRehearsal {
             return OUTSIDE;
         }
         Sheet text = sheets[sheet];
-        int fault = text.faultTakenAs(lane);
-        if (fault == NO_FAULT && n < 0) {
-            fault = SIZE;
-        }
-        if (fault == NO_FAULT && !text.holds(i, n)) {
-            fault = INDEX;
-        }
+        int fault = text.faultOfCells(lane, i, n);
         if (fault != NO_FAULT) {
             return failed(fault);
         }
@@ -449,10 +443,7 @@ public final class HourRehearsal {
             return OUTSIDE;
         }
         Sheet row = sheets[sheet];
-        int fault = row.faultTakenAs(lane);
-        if (fault == NO_FAULT && !row.holds(i, n)) {
-            fault = INDEX;
-        }
+        int fault = row.faultOfCells(lane, i, n);
         if (fault != NO_FAULT) {
             return failed(fault);
         }
@@ -552,6 +543,17 @@ public final class HourRehearsal {
                 return NULL;
             }
             return lane == asLane ? NO_FAULT : CAST;
+        }
+
+        int faultOfCells(int asLane, int i, int n) {
+            int fault = faultTakenAs(asLane);
+            if (fault != NO_FAULT) {
+                return fault;
+            }
+            if (n < 0) {
+                return SIZE;
+            }
+            return holds(i, n) ? NO_FAULT : INDEX;
         }
 
         boolean hasCell(int i) {
