@@ -25,6 +25,10 @@ final class Checks {
         due(claim, holds ? 1 : 0, 1);
     }
 
+    int made() {
+        return made;
+    }
+
     int wrong() {
         return wrong;
     }

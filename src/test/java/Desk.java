@@ -28,12 +28,16 @@ final class Desk {
         }
     }
 
+    static void row(HourRehearsal x, int sheet, int lane, int... cells) {
+        x.sheet(sheet, lane, cells.length);
+        for (int i = 0; i < cells.length; i++) {
+            x.put(sheet, i, cells[i]);
+        }
+    }
+
     /** Answers how many steps there are, as calls that use them ask for it. */
     static int steps(HourRehearsal x, int... steps) {
-        x.sheet(PLAN_SHEET, INTS, steps.length);
-        for (int i = 0; i < steps.length; i++) {
-            x.put(PLAN_SHEET, i, steps[i]);
-        }
+        row(x, PLAN_SHEET, INTS, steps);
         return steps.length;
     }
 
@@ -55,5 +59,37 @@ final class Desk {
 
     static int kinds(HourRehearsal x, int k, int... steps) {
         return x.kinds(k, PLAN_SHEET, INTS, 0, steps(x, steps));
+    }
+
+    /** All that calls can see of an object but fault(), without a change of it. */
+    static String seen(HourRehearsal x) {
+        StringBuilder all = new StringBuilder("trace " + x.trace() + ", many");
+        for (int what = 0; what < 4; what++) {
+            all.append(' ').append(x.many(what));
+        }
+        for (int k = 0; k < x.many(0); k++) {
+            all.append(", place");
+            for (int what = 0; what < 6; what++) {
+                all.append(' ').append(x.ofPlace(k, what));
+            }
+        }
+        all.append(", plans ").append(x.plans(2, -1)).append(' ').append(x.plans(2, 0)).append(' ').append(x.plans(2, 1));
+        for (int sheet = 0; sheet < 4; sheet++) {
+            all.append(", sheet").append(cellsOf(x, sheet));
+        }
+        return all.toString();
+    }
+
+    private static String cellsOf(HourRehearsal x, int sheet) {
+        StringBuilder cells = new StringBuilder();
+        for (int lane = 0; lane < 3; lane++) {
+            int i = 0;
+            for (long v = x.cell(sheet, 0, lane); v != HourRehearsal.LOST && i < 60; v = x.cell(sheet, i, lane)) {
+                cells.append(' ').append(v);
+                i++;
+            }
+            cells.append(" fault ").append(x.fault());
+        }
+        return cells.toString();
     }
 }

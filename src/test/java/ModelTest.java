@@ -6,9 +6,6 @@ public final class ModelTest {
     private static final int MOST_CALLS = 512;
     private static final int MOST_CALLS_AT_ONCE = 150;
     private static final int[] EDGES = {-1, 0, 1, 60, 61, 127, 128, -129, 32768, Integer.MAX_VALUE, Integer.MIN_VALUE};
-    private static final String[] NAMES = {"piece", "ofPlace", "sure", "minutes", "plan", "right", "worse", "worth",
-        "best", "top", "soonest", "luck", "reading", "back", "plans", "kinds", "sheet", "lose", "put", "cell", "copy",
-        "tell", "hum", "as", "trace", "fault", "many"};
 
     private final Random random;
     private final HourRehearsal x = new HourRehearsal();
@@ -176,13 +173,13 @@ public final class ModelTest {
     }
 
     private void ask(int c, int... a) {
-        StringBuilder told = new StringBuilder(NAMES[c]).append('(');
+        StringBuilder told = new StringBuilder(Calls.NAMES.get(c)).append('(');
         for (int i = 0; i < a.length; i++) {
             told.append(i == 0 ? "" : ", ").append(a[i]);
         }
         told.append(')');
         calls++;
-        checks.due("call " + calls + ", " + told, answerOf(c, a), model.call(c, a));
+        checks.due("call " + calls + ", " + told, Calls.answer(x, c, a), model.call(c, a));
         if (chance(25)) {
             calls++;
             checks.due("fault() behind " + told, x.fault(), model.call(25));
@@ -190,38 +187,6 @@ public final class ModelTest {
         if (chance(10)) {
             calls++;
             checks.due("trace() behind " + told, x.trace(), model.call(24));
-        }
-    }
-
-    private long answerOf(int c, int[] a) {
-        switch (c) {
-            case 0: return x.piece(a[0], a[1], a[2], a[3]);
-            case 1: return x.ofPlace(a[0], a[1]);
-            case 2: return x.sure(a[0], a[1]);
-            case 3: return x.minutes(a[0]);
-            case 4: return x.plan(a[0], a[1], a[2], a[3], a[4]);
-            case 5: return x.right(a[0], a[1], a[2], a[3], a[4]);
-            case 6: return x.worse(a[0], a[1], a[2], a[3]);
-            case 7: return x.worth(a[0], a[1], a[2], a[3], a[4]);
-            case 8: return x.best(a[0], a[1]);
-            case 9: return x.top(a[0], a[1]);
-            case 10: return x.soonest(a[0], a[1]);
-            case 11: return x.luck(a[0], a[1], a[2]);
-            case 12: return x.reading(a[0], a[1]);
-            case 13: return x.back(a[0]);
-            case 14: return x.plans(a[0], a[1]);
-            case 15: return x.kinds(a[0], a[1], a[2], a[3], a[4]);
-            case 16: return x.sheet(a[0], a[1], a[2]);
-            case 17: return x.lose(a[0]);
-            case 18: return x.put(a[0], a[1], a[2]);
-            case 19: return x.cell(a[0], a[1], a[2]);
-            case 20: return x.copy(a[0], a[1], a[2], a[3], a[4]);
-            case 21: return x.tell(a[0]);
-            case 22: return x.hum(a[0]);
-            case 23: return x.as(a[0], a[1]);
-            case 24: return x.trace();
-            case 25: return x.fault();
-            default: return x.many(a[0]);
         }
     }
 }
