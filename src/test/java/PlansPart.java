@@ -135,6 +135,7 @@ final class PlansPart extends Part {
             due("a break at 0", Desk.plan(x, 1, 21), NONE);
         }
         due("from 0", Desk.plan(Desk.with("c60;p5190"), 1, 0), NONE);
+        due("a run of places that all wait", Desk.plan(Desk.with("c60;p5195;p5195"), 1, 20), NONE);
     }
 
     private void firstWrong() {

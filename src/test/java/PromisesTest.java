@@ -98,6 +98,7 @@ public final class PromisesTest {
             "c60;p5210;k6416", "c60;p5210;;6413", "c70"};
         int[] places = {0, 1, 1, 2, 2, 2, 2, 2, 2, 3, 4, 5, 5, 6, 6, 7, 7, 8, 8, 9, 14, 10, 1};
         for (int t = 0; t < texts.length; t++) {
+            x = Desk.with("c60;p5210");
             c.due(texts[t], Desk.take(x, texts[t]), -100 - places[t]);
             c.due("it stays", x.many(2), 60);
             c.due("no fault", x.fault(), 0);

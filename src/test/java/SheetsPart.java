@@ -137,13 +137,15 @@ final class SheetsPart extends Part {
         for (int k = 0; k < 3; k++) {
             due("it had a row", x.lose(k), 1);
             due("it had nothing", x.lose(k), 0);
-            faulty(x, "put(" + k + ", 0, 0)", NULL);
+            due("no cell", x.put(k, 0, 0), -10 - NULL);
         }
         due(x, "lose(3)", 0);
         x.sheet(3, 0, 0);
         due("a row of none", x.lose(3), 1);
         x.sheet(3, 2, 1);
         due("a new row", x.cell(3, 0, 2), 0);
+        due("it is lost again", x.lose(3), 1);
+        faulty(x, "cell(3, 0, 0)", NULL);
         promise(19, "UNKNOWN.");
         refusedFor("lose(#)", UNKNOWN, -1, 4, BIG, SMALL);
     }
@@ -230,6 +232,10 @@ final class SheetsPart extends Part {
         faulty("copy(3, 0, 0, 0, 1)", NULL);
         faulty("copy(0, 0, 3, 0, 1)", NULL);
         faulty("copy(3, 0, 3, 0, 0)", NULL);
+        for (int k = 1; k <= 2; k++) {
+            faulty("copy(3, 0, " + k + ", 0, -1)", NULL);
+            faulty("copy(" + k + ", 0, 3, 0, -1)", NULL);
+        }
         promise(22, "CAST (unlike LANES),");
         faulty("copy(0, 0, 1, 0, 1)", CAST);
         faulty("copy(1, 0, 0, 0, 0)", CAST);
