@@ -1,9 +1,11 @@
+import java.io.IOException;
 import java.lang.reflect.Constructor;
 import java.lang.reflect.Field;
 import java.lang.reflect.Method;
 import java.lang.reflect.Modifier;
 import java.nio.file.Files;
 import java.nio.file.Path;
+import java.util.List;
 import java.util.Set;
 import java.util.TreeSet;
 import java.util.regex.Matcher;
@@ -30,9 +32,14 @@ public final class FaceTest {
         constants();
         members();
         nested();
-        String source = withoutComments(Files.readString(Path.of(SOURCE)));
+        String whole = Files.readString(Path.of(SOURCE));
+        asDeclared(whole);
+        asPromised();
+        remarks(whole);
+        String source = withoutComments(whole);
         words(source);
         lengths(source);
+        madeOnce(source);
         c.end();
     }
 
@@ -76,6 +83,50 @@ public final class FaceTest {
         Constructor<?>[] made = face.getDeclaredConstructors();
         c.that("one constructor", made.length == 1 && made[0].getParameterCount() == 0);
         c.that("a public one", made.length == 1 && Modifier.isPublic(made[0].getModifiers()));
+    }
+
+    /** The document's lines stand in the source, in the document's order. */
+    private static void asDeclared(String source) throws IOException {
+        c.about("as the document declares it");
+        List<String> declarations = new Face().declarations();
+        int linesOfConstants = 2;
+        int constructors = 1;
+        c.due("lines", declarations.size(), linesOfConstants + constructors + METHODS.length);
+        int at = 0;
+        for (String declaration : declarations) {
+            int next = source.indexOf("    " + declaration + (declaration.endsWith(")") ? " {\n" : ";\n"), at);
+            c.that(declaration + " stands there", next >= 0);
+            at = Math.max(next, at);
+        }
+    }
+
+    private static void asPromised() throws IOException {
+        c.about("as the promises tell it");
+        Face face = new Face();
+        List<String> promised = face.promised();
+        c.due("calls", promised.size(), METHODS.length);
+        for (String call : promised) {
+            c.that(call + " is declared", face.declarations().contains("public " + call));
+        }
+    }
+
+    /** Each part's remark stands right ahead of its calls. */
+    private static void remarks(String source) throws IOException {
+        c.about("remarks");
+        Face face = new Face();
+        List<String> remarks = face.partsRemarks();
+        List<String> calls = face.partsCalls();
+        c.due("parts", remarks.size(), 5);
+        c.due("parts", calls.size(), 5);
+        for (int part = 0; part < Math.min(remarks.size(), calls.size()); part++) {
+            int begin = source.indexOf("// " + remarks.get(part) + "\n");
+            int end = source.indexOf("// ---- ", begin + 1);
+            c.that(remarks.get(part) + " stands there", begin >= 0 && end > begin);
+            String told = begin >= 0 && end > begin ? source.substring(begin, end) : "";
+            for (String name : calls.get(part).replace("`", "").split(", ")) {
+                c.that(name + " behind " + remarks.get(part), told.matches("(?s).*\\n    public (int|long) " + name + "\\(.*"));
+            }
+        }
     }
 
     private static void nested() {
@@ -126,13 +177,30 @@ public final class FaceTest {
         c.that("nothing but ASCII", source.chars().allMatch(sign -> sign < 128));
     }
 
-    /** A method begins at a line with an open brace and four or eight blanks, and ends at its brace. */
+    /** All is made with the object: in constructors, and where final fields are told. */
+    private static void madeOnce(String source) {
+        c.about("made once");
+        boolean isInConstructor = false;
+        for (String line : source.split("\n")) {
+            if (isHead(line)) {
+                isInConstructor = line.matches(" +(public )?[A-Z]\\w*\\(\\) \\{");
+            }
+            boolean isFinalField = line.matches("( {4}| {8})(private )?final .*");
+            c.that(line.trim() + " makes nothing anew", isInConstructor || isFinalField || !line.matches(".*\\bnew\\b.*"));
+        }
+    }
+
+    /** A method or constructor begins at a line with four or eight blanks and an open brace. */
+    private static boolean isHead(String line) {
+        return line.matches("( {4}| {8})(?!for |if |while |switch )[^ }].*\\) \\{");
+    }
+
+    /** A method ends at its brace. */
     private static void lengths(String source) {
         c.about("lengths");
         String[] lines = source.split("\n");
         for (int i = 0; i < lines.length; i++) {
-            boolean begins = lines[i].matches("( {4}| {8})[^ ].*\\) \\{") && !lines[i].contains("class ");
-            if (!begins) {
+            if (!isHead(lines[i])) {
                 continue;
             }
             String close = lines[i].replaceAll("[^ ].*", "") + "}";
